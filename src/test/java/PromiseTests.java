@@ -1,15 +1,11 @@
-import java.nio.charset.StandardCharsets;
-
 /** Promise by promise: ordinary inputs, the edges that the document names, and wrong inputs. */
-public final class PromiseTests {
+public final class PromiseTests extends TokenCalls {
     private static final int[] WRONG_INDEXES = {-1, Integer.MIN_VALUE, Integer.MAX_VALUE, 15999, 16000, 16001};
     private static final String[] WORDS =
         "int void static extern if else while do for break continue return".split(" ");
     private static final String[] SIGNS =
         ("( ) { } [ ] , ; ? : = += -= *= /= %= &= |= ^= <<= >>= || && | ^ & == != < > <= >= << >> "
             + "+ - * / % ! ~ ++ --").split(" ");
-
-    private static int wrong = 0;
 
     public static void main(String[] args) {
         newObject();
@@ -33,11 +29,7 @@ public final class PromiseTests {
         tellsWhileFeeding();
         noSuchToken();
         sameBytes();
-        fullTray();
-        System.out.println(wrong == 0 ? "all answers are as due" : wrong + " answers are not as due");
-        if (wrong != 0) {
-            System.exit(1);
-        }
+        finish();
     }
 
     private static void newObject() {
@@ -399,7 +391,7 @@ public final class PromiseTests {
                 faultAt("; " + (char) b + " ;", 2, 1);
             }
         }
-        faultAt("", -1, 0);
+        tokensAt("");
         faultAt("a\u0000", 1, 1);
         faultAt("99999999999 \u0007", 0, 0);
         faultAt("\u0007 99999999999", 0, 0);
@@ -486,88 +478,5 @@ public final class PromiseTests {
         cut(x, "abc abd bbc");
         due("same: the last byte differs", x.same(0, 1), 0);
         due("same: the first byte differs", x.same(0, 2), 0);
-    }
-
-    /** As much as 512 calls can bring: 510 feeds, one cut, one question. */
-    private static void fullTray() {
-        TokenRows x = new TokenRows();
-        for (int k = 1; k <= 510; k++) {
-            due("full: feed", x.feed(0x3b3b3b3b, 0x3b3b3b3b, 0x3b3b3b3b, 0x3b3b3b3b, 0x3b3b0a3b), 20 * k);
-        }
-        due("full: cut", x.cut(), 510 * 19);
-        due("full: the last line", x.line(510 * 19 - 1), 511);
-        due("full: none behind it", x.line(510 * 19), 0);
-    }
-
-    private static void noneAt(TokenRows x, int i) {
-        due("none: kind " + i, x.kind(i), 0);
-        due("none: which " + i, x.which(i), -1);
-        due("none: from " + i, x.from(i), -1);
-        due("none: length " + i, x.length(i), 0);
-        due("none: line " + i, x.line(i), 0);
-        due("none: worth " + i, x.worth(i), 0);
-        due("none: codes " + i, x.codes(i), -1);
-        due("none: code " + i, x.code(i, 0), -1);
-        due("none: same " + i, x.same(i, i), 0);
-    }
-
-    /** The text is one token, also between two others. */
-    private static void one(String text, int kind, int which, int worth) {
-        TokenRows x = new TokenRows();
-        due(text + ": alone", cut(x, text), 1);
-        due(text + ": alone, length", x.length(0), text.length());
-        due(text + ": among others", cut(x, ";\n" + text + " ;"), 3);
-        due(text + ": kind", x.kind(1), kind);
-        due(text + ": which", x.which(1), which);
-        due(text + ": from", x.from(1), 2);
-        due(text + ": length", x.length(1), text.length());
-        due(text + ": line", x.line(1), 2);
-        due(text + ": worth", x.worth(1), worth);
-        due(text + ": place", x.place(), -1);
-        due(text + ": codes", x.codes(1) >= 0, kind == 3 ? 1 : 0);
-    }
-
-    private static void tokensAt(String text, int... places) {
-        TokenRows x = new TokenRows();
-        due(text + ": cut", cut(x, text), places.length);
-        due(text + ": place", x.place(), -1);
-        for (int i = 0; i < places.length; i++) {
-            due(text + ": from " + i, x.from(i), places[i]);
-        }
-    }
-
-    private static void faultAt(String text, int place, int tokens) {
-        TokenRows x = new TokenRows();
-        due(text + ": cut", cut(x, text), place < 0 ? tokens : -1);
-        due(text + ": place", x.place(), place);
-        due(text + ": tokens", x.tokens(), tokens);
-    }
-
-    private static int cut(TokenRows x, String text) {
-        byte[] bytes = text.getBytes(StandardCharsets.ISO_8859_1);
-        for (int at = 0; at < bytes.length; at += 20) {
-            x.feed(four(bytes, at), four(bytes, at + 4), four(bytes, at + 8), four(bytes, at + 12), four(bytes, at + 16));
-        }
-        due("end of a text", x.end(bytes.length), bytes.length);
-        return x.cut();
-    }
-
-    private static int four(byte[] bytes, int at) {
-        int all = 0;
-        for (int k = at; k < at + 4; k++) {
-            all = all << 8 | (k < bytes.length ? bytes[k] & 255 : 0);
-        }
-        return all;
-    }
-
-    private static void due(String call, boolean got, int want) {
-        due(call, got ? 1 : 0, want);
-    }
-
-    private static void due(String call, int got, int want) {
-        if (got != want) {
-            wrong++;
-            System.out.println(call + " answered " + got + ", due is " + want);
-        }
     }
 }
