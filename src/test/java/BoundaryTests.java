@@ -1084,6 +1084,8 @@ public final class BoundaryTests extends TokenCalls {
         cut(x, first + " " + second);
         due(first + " and " + second, x.same(0, 1), want);
         due(second + " and " + first, x.same(1, 0), want);
+        cut(x, first + "\n/**/" + second);
+        due(first + " and, on another line, " + second, x.same(0, 1), want);
         due(first + " and itself", x.same(0, 0), 1);
         due(second + " and itself", x.same(1, 1), 1);
     }

@@ -66,6 +66,11 @@ public final class OracleRuns {
 
     private String someText(boolean clean) {
         StringBuilder text = new StringBuilder();
+        int lowest = clean ? 32 : 0;
+        int bytes = clean ? 95 : 256;
+        for (int k = pick(8) == 0 ? pick(40) : 0; k > 0; k--) {
+            text.append((char) (lowest + pick(bytes)));
+        }
         for (int k = pick(pick(8) == 0 ? 120 : 30); k > 0; k--) {
             text.append(!clean && pick(40) == 0 ? RARE[pick(RARE.length)] : PIECES[pick(PIECES.length)]);
             if (clean && pick(3) > 0) {
